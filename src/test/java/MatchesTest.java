@@ -1,0 +1,172 @@
+/** Promises 42 to 47: squads, matches, protests. Rulings on matches stand in OffersTest. */
+public final class MatchesTest {
+    private static final Class<IllegalArgumentException> ARGUMENT = IllegalArgumentException.class;
+    private static final Class<IllegalStateException> STATE = IllegalStateException.class;
+    private static final Class<IndexOutOfBoundsException> INDEX = IndexOutOfBoundsException.class;
+    private static final Class<UnsupportedOperationException> CANNOT = UnsupportedOperationException.class;
+    private static final Class<java.util.NoSuchElementException> NONE = java.util.NoSuchElementException.class;
+
+    public static void main(String[] args) {
+        squads();
+        homegrown();
+        match();
+        appear();
+        protest();
+        loser();
+        Check.end("MatchesTest");
+    }
+
+    /** Three clubs; player i, 21 years old, under contract at club i. */
+    private static TransferHall hall() {
+        TransferHall x = new TransferHall();
+        for (int i = 0; i < 3; i++) {
+            x.club(0, 4, 1000);
+            x.player(7560, 0);
+            x.sign(i, i, 1, 0);
+        }
+        return x;
+    }
+
+    private static void squads() {
+        TransferHall x = hall();
+        Check.due("promise 42: by a contract", 1, () -> x.squad(0));
+        x.player(5000, 0);
+        x.enrol(3, 0);
+        Check.due("promise 42: a youth", 2, () -> x.squad(0));
+        x.lend(0, 1, 5, 0, 0);
+        Check.due("promise 42: not who is lent", 1, () -> x.squad(0));
+        Check.due("promise 42: who is borrowed", 2, () -> x.squad(1));
+        x.days(360);
+        Check.due("promise 42: contracts over", 0, () -> x.squad(1));
+        Check.refused("promise 42: no such club", x, INDEX, () -> x.squad(3));
+        Check.refused("promise 42: club -1", x, INDEX, () -> x.squad(-1));
+        Check.refused("promise 43: no such club", x, INDEX, () -> x.homegrown(3));
+        Check.refused("promise 43: club -1", x, INDEX, () -> x.homegrown(-1));
+    }
+
+    private static void homegrown() {
+        TransferHall x = new TransferHall();
+        x.club(0, 4, 1000000);
+        x.club(0, 4, 1000000);
+        x.club(1, 4, 1000000);
+        x.setWindow(0, false, 0, 359);
+        x.setWindow(1, false, 0, 359);
+        x.player(18 * 360, 0);
+        x.player(18 * 360 + 1, 0);
+        x.player(21 * 360 - 1, 0);
+        x.player(21 * 360, 0);
+        x.sign(2, 0, 5, 0);
+        x.sign(3, 0, 5, 0);
+        Check.due("promise 43: younger than 21", 1, () -> x.homegrown(0));
+        x.enrol(0, 0);
+        x.enrol(1, 0);
+        x.days(100);
+        Check.due("promise 43: two youths", 2, () -> x.homegrown(0));
+        x.leave(0);
+        x.leave(1);
+        x.enrol(0, 1);
+        x.enrol(1, 1);
+        for (int i = 0; i < 3; i++) {
+            x.days(360);
+        }
+        x.sign(0, 0, 1, 0);
+        x.sign(1, 0, 1, 0);
+        Check.due("promise 19: 980 days at one", 980, () -> x.grown(0, 1));
+        Check.due("promise 43: 1080 days at clubs of the land, 1079 are too few", 1, () -> x.homegrown(0));
+        int away = x.offer(2, 0, 0, 1, 1, 0, 0);
+        x.answer(away, true);
+        x.file(away);
+        x.certify(away, true);
+        x.complete(away);
+        Check.due("promise 43: not of another land", 0, () -> x.homegrown(2));
+    }
+
+    private static void match() {
+        TransferHall x = hall();
+        Check.refused("promise 44: no such club", x, INDEX, () -> x.match(3, 0));
+        Check.refused("promise 44: nor the other", x, INDEX, () -> x.match(0, 3));
+        Check.refused("promise 44: the index first", x, INDEX, () -> x.match(3, 3));
+        Check.refused("promise 44: both the same", x, ARGUMENT, () -> x.match(1, 1));
+        for (int i = 0; i < 40; i++) {
+            int number = i;
+            Check.due("promise 44: match " + i, number, () -> x.match(0, 1));
+        }
+        Check.refused("promise 44: the 41st", x, STATE, () -> x.match(0, 1));
+        Check.refused("promise 44: the argument first", x, ARGUMENT, () -> x.match(1, 1));
+    }
+
+    private static void appear() {
+        TransferHall x = hall();
+        x.match(0, 1);
+        x.match(0, 1);
+        Check.due("promise 45: is entitled", true, () -> x.appear(0, 0, 0));
+        Check.due("promise 45: is not", false, () -> x.appear(0, 1, 2));
+        Check.refused("promise 45: told already", x, CANNOT, () -> x.appear(0, 0, 0));
+        Check.refused("promise 45: for the other club", x, CANNOT, () -> x.appear(0, 1, 0));
+        Check.due("promise 45: in another match", true, () -> x.appear(1, 0, 0));
+        Check.refused("promise 45: no such match", x, INDEX, () -> x.appear(2, 0, 0));
+        Check.refused("promise 45: match -1", x, INDEX, () -> x.appear(-1, 0, 0));
+        Check.refused("promise 45: no such club", x, INDEX, () -> x.appear(0, 3, 0));
+        Check.refused("promise 45: no such player, the index first", x, INDEX, () -> x.appear(0, 2, 3));
+        Check.refused("promise 45: none of its clubs", x, ARGUMENT, () -> x.appear(0, 2, 2));
+        x.lend(1, 0, 5, 0, 0);
+        Check.due("promise 45: lent", false, () -> x.appear(1, 1, 1));
+        x.days(1);
+        Check.refused("promise 45: not of today", x, CANNOT, () -> x.appear(0, 0, 1));
+        Check.refused("promise 45: the argument first", x, ARGUMENT, () -> x.appear(0, 2, 1));
+        x.match(0, 1);
+        Check.due("promise 45: borrowed", true, () -> x.appear(2, 0, 1));
+        x.player(5000, 0);
+        x.enrol(3, 1);
+        Check.due("promise 45: a youth", true, () -> x.appear(2, 1, 3));
+        x.player(5000, 0);
+        Check.due("promise 45: nowhere", false, () -> x.appear(2, 1, 4));
+    }
+
+    private static void protest() {
+        TransferHall x = hall();
+        for (int i = 0; i < 4; i++) {
+            x.match(0, 1);
+            x.appear(i, 0, 0);
+            x.appear(i, 1, 2);
+        }
+        Check.due("promise 46: the other one has lost", true, () -> x.protest(0, 0));
+        Check.due("promise 46: the other one has not", false, () -> x.protest(0, 1));
+        Check.refused("promise 46: has protested", x, CANNOT, () -> x.protest(0, 0));
+        Check.refused("promise 46: has protested, in vain", x, CANNOT, () -> x.protest(0, 1));
+        Check.refused("promise 46: no such match", x, INDEX, () -> x.protest(4, 0));
+        Check.refused("promise 46: match -1", x, INDEX, () -> x.protest(-1, 0));
+        Check.refused("promise 46: no such club", x, INDEX, () -> x.protest(0, 3));
+        Check.refused("promise 46: none of its clubs", x, ARGUMENT, () -> x.protest(0, 2));
+        x.sign(x.player(7560, 0), 1, 1, 0);
+        x.days(2);
+        Check.due("promise 46: 2 days ago", true, () -> x.protest(1, 0));
+        x.days(1);
+        Check.refused("promise 46: more than 2 days ago", x, CANNOT, () -> x.protest(2, 0));
+        Check.refused("promise 46: the argument first", x, ARGUMENT, () -> x.protest(2, 2));
+        Check.due("promise 41: 3 for each", 6, () -> x.points(0));
+        Check.due("promise 41: no other", 0, () -> x.points(1));
+    }
+
+    private static void loser() {
+        TransferHall x = hall();
+        x.match(0, 1);
+        Check.refused("promise 47: none has", x, NONE, () -> x.loser(0));
+        x.appear(0, 0, 2);
+        Check.refused("promise 47: nobody protested", x, NONE, () -> x.loser(0));
+        x.protest(0, 1);
+        Check.due("promise 47: the first", 0, () -> x.loser(0));
+        x.appear(0, 1, 0);
+        Check.due("promise 47: not the other one yet", 0, () -> x.loser(0));
+        x.protest(0, 0);
+        Check.refused("promise 47: both have", x, NONE, () -> x.loser(0));
+        Check.due("promise 41: points for both", 3, () -> x.points(0));
+        Check.due("promise 41: points for both", 3, () -> x.points(1));
+        Check.refused("promise 47: no such match", x, INDEX, () -> x.loser(1));
+        Check.refused("promise 47: match -1", x, INDEX, () -> x.loser(-1));
+        x.match(2, 1);
+        x.protest(1, 2);
+        Check.due("promise 45: told behind the protest", false, () -> x.appear(1, 1, 0));
+        Check.due("promise 47: lost then", 1, () -> x.loser(1));
+    }
+}
