@@ -79,12 +79,7 @@ public final class TransferHall {
         }
 
         int trainingRate() {
-            switch (category) {
-                case 1: return 90;
-                case 2: return 60;
-                case 3: return 30;
-                default: return 10;
-            }
+            return category == 1 ? 90 : category == 2 ? 60 : category == 3 ? 30 : 10;
         }
 
         void endYear(long yearResult) {
@@ -555,13 +550,16 @@ public final class TransferHall {
         if (one.bond == null) {
             throw new NoSuchElementException();
         }
-        switch (what) {
-            case 'u': return one.bond.until;
-            case 'w': return one.bond.wage;
-            case 'r': return one.bond.release;
-            case 'f': return one.bond.fee;
-            default: return one.bond.share;
+        if (what == 'u') {
+            return one.bond.until;
         }
+        if (what == 'w') {
+            return one.bond.wage;
+        }
+        if (what == 'r') {
+            return one.bond.release;
+        }
+        return what == 'f' ? one.bond.fee : one.bond.share;
     }
 
     public int age(int player) throws IndexOutOfBoundsException {
@@ -581,12 +579,13 @@ public final class TransferHall {
             throw new NoSuchElementException();
         }
         Stint found = one.stints.get(index);
-        switch (what) {
-            case 'c': return found.club.number;
-            case 'f': return found.from;
-            case 't': return found.endBy(day);
-            default: return found.kind;
+        if (what == 'c') {
+            return found.club.number;
         }
+        if (what == 'k') {
+            return found.kind;
+        }
+        return what == 'f' ? found.from : found.endBy(day);
     }
 
     public int grown(int player, int club) throws IndexOutOfBoundsException {

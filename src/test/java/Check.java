@@ -39,7 +39,9 @@ final class Check {
         try {
             return call.call();
         } catch (Exception e) {
-            return "throws " + e.getClass().getSimpleName();
+            // The class throws for itself and without words: anything else came of the machine or the library.
+            boolean isOwn = e.getMessage() == null && e.getStackTrace()[0].getClassName().startsWith("TransferHall");
+            return (isOwn ? "throws " : "is thrown ") + e.getClass().getSimpleName();
         }
     }
 

@@ -40,7 +40,10 @@ public final class LandsTest {
         Check.due("promise 4: day 179", 1, () -> x.opensIn(0));
         x.days(1);
         Check.due("promise 3: day 180", true, () -> x.isOpen(0));
-        x.days(60);
+        x.days(59);
+        Check.due("promise 3: day 239", true, () -> x.isOpen(0));
+        x.days(1);
+        Check.due("promise 3: day 240", false, () -> x.isOpen(0));
         Check.due("promise 4: day 240, over the end of the year", 120, () -> x.opensIn(0));
         Check.due("promise 2: the first one before", 180, () -> x.setWindow(1, false, 240, 240));
         Check.due("promise 2: again", 240, () -> x.setWindow(1, false, 5, 359));
@@ -55,6 +58,7 @@ public final class LandsTest {
         Check.refused("promise 2: land 4", x, ARGUMENT, () -> x.setWindow(4, true, 0, 1));
         Check.refused("promise 2: from -1", x, ARGUMENT, () -> x.setWindow(0, true, -1, 1));
         Check.refused("promise 2: from 360", x, ARGUMENT, () -> x.setWindow(0, true, 360, 360));
+        Check.refused("promise 2: from 360, to 359", x, ARGUMENT, () -> x.setWindow(0, true, 360, 359));
         Check.refused("promise 2: to 360", x, ARGUMENT, () -> x.setWindow(0, false, 359, 360));
         Check.refused("promise 2: to ahead of from", x, ARGUMENT, () -> x.setWindow(0, false, 9, 8));
         Check.refused("promise 3: land 4", x, ARGUMENT, () -> x.isOpen(4));

@@ -208,6 +208,13 @@ public final class LoansTest {
         y.days(359);
         Check.due("terms: it goes on for one day", 1, () -> y.boundTo(0));
 
+        TransferHall j = lent(5000, 30, 5000);
+        j.days(30);
+        Check.due("terms: just the cash", 1, () -> j.boundTo(0));
+        Check.refused("promise 32: the loan is over", j, CANNOT, () -> j.recall(0));
+        Check.due("promise 31: can be lent again", 40, () -> { j.setWindow(0, true, 30, 30); return j.lend(0, 0, 10, 0, 0); });
+        Check.due("promise 33: to the first club", 1, () -> j.loans(1, true));
+
         TransferHall z = lent(5000, 30, 5001);
         z.days(30);
         Check.due("terms: the cash is not there", 0, () -> z.boundTo(0));

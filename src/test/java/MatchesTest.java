@@ -45,6 +45,19 @@ public final class MatchesTest {
     }
 
     private static void homegrown() {
+        TransferHall y = new TransferHall();
+        y.club(0, 4, 0);
+        y.player(15 * 360, 0);
+        y.enrol(0, 0);
+        for (int i = 0; i < 6; i++) {
+            if (i == 3) {
+                y.leave(0);
+            }
+            y.days(360);
+        }
+        y.sign(0, 0, 1, 0);
+        Check.due("promise 43: the years from 15 to 17 are enough", 1, () -> y.homegrown(0));
+
         TransferHall x = new TransferHall();
         x.club(0, 4, 1000000);
         x.club(0, 4, 1000000);
@@ -141,6 +154,8 @@ public final class MatchesTest {
         x.sign(x.player(7560, 0), 1, 1, 0);
         x.days(2);
         Check.due("promise 46: 2 days ago", true, () -> x.protest(1, 0));
+        x.match(0, 1);
+        Check.due("promise 46: of today", false, () -> x.protest(4, 0));
         x.days(1);
         Check.refused("promise 46: more than 2 days ago", x, CANNOT, () -> x.protest(2, 0));
         Check.refused("promise 46: the argument first", x, ARGUMENT, () -> x.protest(2, 2));

@@ -6,6 +6,7 @@ public final class MoneyTest {
 
     public static void main(String[] args) {
         cash();
+        trained();
         results();
         resultOfFees();
         lostPoints();
@@ -31,6 +32,37 @@ public final class MoneyTest {
         Check.due("promise 35: of the land of the player, for all 12 years", 4L * 5 + 8 * 10, () -> x.federation(3));
         Check.due("promise 35: not of the land of the clubs", 0L, () -> x.federation(2));
         Check.due("promise 34: the rest", 500L + 1900, () -> x.cash(0));
+    }
+
+    private static void trained() {
+        TransferHall x = new TransferHall();
+        x.club(0, 1, 100);
+        x.club(0, 1, 100);
+        x.player(12 * 360, 0);
+        x.player(23 * 360, 0);
+        x.sign(1, 1, 5, 0);
+        x.enrol(0, 0);
+        x.days(360);
+        Check.due("promise 38: the year of 12", 24999L, () -> x.trained(0, 9999999, 0));
+        Check.due("promise 38: the year of 23", 49999L, () -> x.trained(1, 9999999, 1));
+        x.days(1);
+        Check.due("promise 38: the year of 13 begins", 24999L + 24999 / 360, () -> x.trained(0, 9999999, 0));
+        Check.due("promise 38: the year of 24 does not count", 49999L, () -> x.trained(1, 9999999, 1));
+        int one = x.offer(0, 1, 800, 2, 1, 0, 0);
+        x.answer(one, true);
+        x.setWindow(0, true, 0, 359);
+        x.file(one);
+        x.income(0, 300);
+        x.complete(one);
+        Check.due("promise 34: nothing left", 0L, () -> x.cash(0));
+        x.income(0, 399);
+        x.days(90);
+        Check.due("promise 37: less by one", true, () -> x.isBanned(0));
+        x.income(0, 1);
+        Check.due("promise 37: on a later day alone", true, () -> x.isBanned(0));
+        x.days(1);
+        Check.due("promise 37: just the cash", false, () -> x.isBanned(0));
+        Check.due("promise 34: nothing left again", 0L, () -> x.cash(0));
     }
 
     private static void results() {

@@ -139,6 +139,7 @@ public final class OffersTest {
 
     private static void certify() {
         TransferHall x = hall(10);
+        x.days(7);
         int given = filed(x, 3, 0, 1, 1, 0);
         int stopped = filed(x, 3, 0, 1, 1, 0);
         int late = filed(x, 3, 0, 1, 1, 0);
@@ -221,6 +222,9 @@ public final class OffersTest {
         int minor = filed(z, 3, 3, 1, 1, 0);
         z.certify(minor, true);
         Check.refused("promise 25: younger than 18 in another land", z, CANNOT, () -> z.complete(minor));
+        int near = filed(z, 1, 3, 1, 1, 0);
+        Check.due("promise 25: 16 years, in the own land", 1L, () -> z.complete(near));
+        Check.due("promise 25: the first offer is stopped", 'x', () -> z.state(minor));
 
         TransferHall f = hall(1000);
         f.club(0, 1, 10);
@@ -273,6 +277,7 @@ public final class OffersTest {
         long got = 999 * 180 / 360 + (999 * 180 / 360 + 1999 + 1999 + ninety) + 1999 * 90 / 360;
         Check.due("terms: the federation again", fed + 4 * 999 + 8 * 1999 - got, () -> x.federation(0));
         Check.due("terms: sound", true, x::isSound);
+        Check.due("promise 38: part 1", 0L, () -> x.trained(0, 1, 0));
         Check.refused("promise 38: part 0", x, ARGUMENT, () -> x.trained(0, 0, 0));
         Check.refused("promise 38: part 10000000", x, ARGUMENT, () -> x.trained(0, 10000000, 0));
         Check.refused("promise 38: no such player, the index first", x, INDEX, () -> x.trained(1, 0, 0));
@@ -303,7 +308,7 @@ public final class OffersTest {
         Check.due("promise 36: three parts", 60L, () -> x.owes(2));
         Check.due("promise 36: nothing", 0L, () -> x.owes(0));
         x.income(1, 79);
-        Check.due("terms: 99 and the 20 of the sale", 99L, () -> x.cash(1));
+        Check.due("terms: less by one, with the 20 of the sale", 99L, () -> x.cash(1));
         x.days(90);
         Check.due("terms: has not the cash", true, () -> x.isBanned(1));
         Check.due("promise 36: due and owed", 100L, () -> x.owes(1));
@@ -317,6 +322,7 @@ public final class OffersTest {
         Check.due("terms: no ban any more", false, () -> x.isBanned(1));
         x.days(89);
         Check.due("terms: 180 days", 20L, () -> x.owes(2));
+        Check.due("promise 34: 20 were left", 100L - 3 * 20, () -> x.cash(2));
         x.days(89);
         Check.due("terms: 269 days", 20L, () -> x.owes(2));
         x.days(1);

@@ -153,6 +153,23 @@ public final class RegistrationsTest {
         x.setWindow(0, true, 30, 30);
         Check.due("promise 11: by the windows as they are now", 0L, () -> x.sign(1, 0, 1, 0));
 
+        TransferHall z = hall(1000);
+        z.player(7560, 0);
+        z.sign(0, 0, 1, 0);
+        z.days(5);
+        int sold = z.offer(1, 0, 1, 1, 1, 0, 0);
+        z.answer(sold, true);
+        z.file(sold);
+        z.complete(sold);
+        z.days(1);
+        z.rule(sold);
+        z.setWindow(0, true, 0, 0);
+        Check.refused("promise 11: on the first day of a contract too", z, CANNOT, () -> z.sign(0, 2, 1, 0));
+        z.setWindow(0, true, 4, 4);
+        Check.refused("promise 11: on the last day of it", z, CANNOT, () -> z.sign(0, 2, 1, 0));
+        z.setWindow(0, true, 5, 5);
+        Check.due("promise 11: not on the day on which it ended, nor by what a ruling took", 0L, () -> z.sign(0, 2, 1, 0));
+
         TransferHall y = hall(0);
         y.player(7560, 0);
         y.setWindow(0, true, 5, 5);
@@ -160,7 +177,10 @@ public final class RegistrationsTest {
         y.days(5);
         Check.due("promise 11: the first day of one", true, () -> y.isOpen(0));
         y.days(1);
+        y.player(7560, 0);
         Check.due("promise 11: the day behind", 0L, () -> y.sign(0, 0, 1, 0));
+        y.setWindow(0, true, 0, 0);
+        Check.due("promise 11: the day 0", 0L, () -> y.sign(1, 0, 1, 0));
     }
 
     private static void trainingMoney() {
