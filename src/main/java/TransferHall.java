@@ -1067,7 +1067,7 @@ public final class TransferHall {
 
     // ---- rules of registrations and contracts
 
-    // A registration that began today ends today by the new one, and so is none: days ahead of today decide.
+    // The present registration counts even if it began today: it is a stint as long as it has not ended.
     private boolean mayRegister(Player one, Club club) {
         if (one.yearsOn(day) < 18 && one.land != club.land) {
             return false;
@@ -1076,7 +1076,7 @@ public final class TransferHall {
         int others = 0;
         for (int i = 0; i < clubs.size(); i++) {
             Club other = clubs.get(i);
-            if (other != club && one.daysAt(other, firstDay, day, day) > 0) {
+            if (other != club && (one.isAt(other) || one.daysAt(other, firstDay, day, day) > 0)) {
                 others++;
             }
         }

@@ -144,6 +144,7 @@ public final class Model {
         if (years(p) < 18 && p.land != clubs.get(club)[0]) return false;
         Set<Integer> set = new LinkedHashSet<>();
         set.add(club);
+        if (p.reg != null) set.add(p.reg.club);
         event("rules of registrations");
         for (int d = today / 360 * 360; d < today; d++) if (p.regOf.get(d) != null) set.add(p.regOf.get(d).club);
         if (set.size() == 4) event("a fourth club");

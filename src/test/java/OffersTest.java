@@ -395,6 +395,13 @@ public final class OffersTest {
         Check.due("promise 28: 0 ahead of 1 and 2", 0, y::run);
         Check.due("promise 28: the cash", 2 * 100L, () -> y.cash(0));
 
+        TransferHall t = hall(100);
+        filed(t, 1, 0, 150, 1, 0);
+        filed(t, 2, 1, 100, 1, 0);
+        t.link(0);
+        t.link(1);
+        Check.due("promise 28: the second one pays for the first", 1, t::run);
+
         TransferHall z = hall(100);
         filed(z, 1, 0, 1, 1, 0);
         filed(z, 2, 1, 1, 1, 0);

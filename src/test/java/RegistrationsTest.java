@@ -94,6 +94,18 @@ public final class RegistrationsTest {
         }
         Check.refused("terms: now a fourth", x, CANNOT, () -> x.enrol(0, 1));
 
+        TransferHall z = hall(1000000);
+        z.player(6000, 0);
+        for (int i = 0; i < 2; i++) {
+            z.enrol(0, i);
+            z.days(1);
+            z.leave(0);
+        }
+        z.enrol(0, 2);
+        Check.refused("terms: the present stint is of this year too", z, CANNOT, () -> z.sign(0, 3, 1, 0));
+        z.leave(0);
+        Check.due("terms: it is none once it has ended", 20L, () -> z.sign(0, 3, 1, 0));
+
         TransferHall y = hall(0);
         y.player(5000, 0);
         for (int i = 0; i < 4; i++) {
@@ -164,7 +176,8 @@ public final class RegistrationsTest {
         z.days(1);
         z.rule(sold);
         z.setWindow(0, true, 0, 0);
-        Check.refused("promise 11: on the first day of a contract too", z, CANNOT, () -> z.sign(0, 2, 1, 0));
+        z.setWindow(0, false, 7, 7);
+        Check.refused("promise 11: on the first day of a contract too, and a window of tomorrow does not count", z, CANNOT, () -> z.sign(0, 2, 1, 0));
         z.setWindow(0, true, 4, 4);
         Check.refused("promise 11: on the last day of it", z, CANNOT, () -> z.sign(0, 2, 1, 0));
         z.setWindow(0, true, 5, 5);
