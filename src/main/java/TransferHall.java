@@ -117,6 +117,10 @@ public final class TransferHall {
             return to == NONE ? today : to;
         }
 
+        boolean isOfDay(int someDay) {
+            return from <= someDay && (to == NONE || someDay < to);
+        }
+
         int daysWithin(int first, int behind, int today) {
             int over = to == NONE ? today : to;
             int start = from > first ? from : first;
@@ -156,13 +160,14 @@ public final class TransferHall {
 
     private static final class Loan {
         final Club club;
+        final int from;
         final int end;
         final int matchesToBuy;
         final int price;
-        int played = 0;
 
-        Loan(Club club, int end, int matchesToBuy, int price) {
+        Loan(Club club, int from, int end, int matchesToBuy, int price) {
             this.club = club;
+            this.from = from;
             this.end = end;
             this.matchesToBuy = matchesToBuy;
             this.price = price;
@@ -193,6 +198,16 @@ public final class TransferHall {
 
         boolean isAt(Club club) {
             return registration != null && registration.club == club;
+        }
+
+        boolean wasAt(Club club, int someDay) {
+            for (int i = 0; i < stints.size(); i++) {
+                Stint one = stints.get(i);
+                if (one.club == club && one.isOfDay(someDay)) {
+                    return true;
+                }
+            }
+            return false;
         }
 
         int daysAt(Club club, int first, int behind, int today) {
@@ -321,13 +336,10 @@ public final class TransferHall {
     private static final class Appearance {
         final Player player;
         final Club club;
-        // The registration that made the player entitled: null if none did, or a ruling took it.
-        Stint entitledBy;
 
-        Appearance(Player player, Club club, Stint entitledBy) {
+        Appearance(Player player, Club club) {
             this.player = player;
             this.club = club;
-            this.entitledBy = entitledBy;
         }
     }
 
@@ -374,14 +386,24 @@ public final class TransferHall {
             return false;
         }
 
-        // Found anew each time, because rulings and late tellings reach back to a protest.
+        boolean wasFor(Club club, Player player) {
+            for (int i = 0; i < appearances.size(); i++) {
+                Appearance one = appearances.get(i);
+                if (one.club == club && one.player == player) {
+                    return true;
+                }
+            }
+            return false;
+        }
+
+        // Found anew each time: what begins or ends on the match's day counts for all of it, and rulings reach back.
         boolean isLostBy(Club club) {
             if (!hasProtested(against(club))) {
                 return false;
             }
             for (int i = 0; i < appearances.size(); i++) {
                 Appearance one = appearances.get(i);
-                if (one.club == club && one.entitledBy == null) {
+                if (one.club == club && !one.player.wasAt(club, day)) {
                     return true;
                 }
             }
@@ -729,7 +751,6 @@ public final class TransferHall {
         undoMove(one);
         payBack(one);
         dropDebts(one);
-        takeEntitlement(one.stint);
         one.letter = 'v';
         return lostMatches() > before;
     }
@@ -750,7 +771,7 @@ public final class TransferHall {
             throw new IllegalStateException();
         }
         bond.wasLent = true;
-        one.loan = new Loan(borrower, day + days, matches, price);
+        one.loan = new Loan(borrower, day, day + days, matches, price);
         one.endStint(day);
         one.beginStint(borrower, ON_LOAN, day);
         return day + days;
@@ -766,8 +787,9 @@ public final class TransferHall {
         if (!bond.club.land.isOpenOn(day)) {
             throw new IllegalStateException();
         }
+        int count = matchesOn(one, loan);
         returnFromLoan(one, bond);
-        return loan.played;
+        return count;
     }
 
     public int loans(int club, boolean isLent) throws IndexOutOfBoundsException {
@@ -883,12 +905,8 @@ public final class TransferHall {
         if (one.day != day || one.wasTold(who)) {
             throw new UnsupportedOperationException();
         }
-        boolean isEntitled = who.isAt(side);
-        one.appearances.add(new Appearance(who, side, isEntitled ? who.registration : null));
-        if (isEntitled && who.loan != null) {
-            who.loan.played++;
-        }
-        return isEntitled;
+        one.appearances.add(new Appearance(who, side));
+        return who.wasAt(side, day);
     }
 
     public boolean protest(int match, int club) throws IndexOutOfBoundsException, IllegalArgumentException, UnsupportedOperationException {
@@ -1351,17 +1369,6 @@ public final class TransferHall {
         }
     }
 
-    private void takeEntitlement(Stint stint) {
-        for (int i = 0; i < matches.size(); i++) {
-            ArrayList<Appearance> told = matches.get(i).appearances;
-            for (int k = 0; k < told.size(); k++) {
-                if (told.get(k).entitledBy == stint) {
-                    told.get(k).entitledBy = null;
-                }
-            }
-        }
-    }
-
     private int lostMatches() {
         int count = 0;
         for (int i = 0; i < matches.size(); i++) {
@@ -1412,8 +1419,20 @@ public final class TransferHall {
         return count;
     }
 
+    // Who is in a match for the loan's club on a day of the loan is entitled by it, also if told ahead of it that day.
+    private int matchesOn(Player one, Loan loan) {
+        int count = 0;
+        for (int i = 0; i < matches.size(); i++) {
+            Match match = matches.get(i);
+            if (match.day >= loan.from && match.wasFor(loan.club, one)) {
+                count++;
+            }
+        }
+        return count;
+    }
+
     private void endLoan(Player one, Loan loan, Contract bond) {
-        boolean isPlayed = loan.matchesToBuy > 0 && loan.played >= loan.matchesToBuy;
+        boolean isPlayed = loan.matchesToBuy > 0 && matchesOn(one, loan) >= loan.matchesToBuy;
         if (!isPlayed || bond.until <= day || loan.club.cash < loan.price) {
             returnFromLoan(one, bond);
             return;

@@ -13,6 +13,9 @@ public final class MatchesTest {
         appear();
         protest();
         loser();
+        movesOnTheDay();
+        loansOnTheDay();
+        rulingsOnTheDay();
         Check.end("MatchesTest");
     }
 
@@ -183,5 +186,111 @@ public final class MatchesTest {
         x.protest(1, 2);
         Check.due("promise 45: told behind the protest", false, () -> x.appear(1, 1, 0));
         Check.due("promise 47: lost then", 1, () -> x.loser(1));
+    }
+
+    /** A registration is of its first day, and not of that on which it ends, whenever on that day the player was told. */
+    private static void movesOnTheDay() {
+        TransferHall x = hall();
+        x.player(7560, 0);
+        x.match(0, 1);
+        Check.due("promise 45: registered nowhere", false, () -> x.appear(0, 0, 3));
+        Check.due("promise 46: not entitled by now", true, () -> x.protest(0, 1));
+        Check.due("promise 47: lost by now", 0, () -> x.loser(0));
+        x.sign(3, 0, 1, 0);
+        Check.due("promise 41: signed later on that day", 0, () -> x.points(1));
+        Check.refused("promise 47: not lost any more", x, NONE, () -> x.loser(0));
+        Check.due("promise 45: the one who goes", true, () -> x.appear(0, 1, 1));
+        Check.due("promise 46: entitled by now", false, () -> x.protest(0, 0));
+        complete(x, 2, 1);
+        Check.due("promise 47: sold later on that day", 1, () -> x.loser(0));
+        Check.due("promise 41: sold later on that day", 3, () -> x.points(0));
+        x.days(1);
+        x.match(1, 2);
+        Check.due("promise 45: entitled, and sold on a later day", true, () -> x.appear(1, 2, 1));
+        x.days(1);
+        complete(x, 0, 1);
+        Check.due("promise 46: entitled on the day of the match", false, () -> x.protest(1, 1));
+
+        TransferHall y = hall();
+        y.player(5000, 0);
+        y.enrol(3, 0);
+        y.match(0, 1);
+        Check.due("promise 45: a youth", true, () -> y.appear(0, 0, 3));
+        y.leave(3);
+        Check.due("promise 46: left on the day that it began", true, () -> y.protest(0, 1));
+        y.enrol(3, 0);
+        Check.refused("promise 47: is there again on that day", y, NONE, () -> y.loser(0));
+        y.days(1);
+        y.match(0, 1);
+        y.appear(1, 0, 3);
+        y.leave(3);
+        y.enrol(3, 1);
+        Check.due("promise 46: left for the other one on that day", true, () -> y.protest(1, 1));
+        Check.refused("promise 47: was there the day ahead", y, NONE, () -> y.loser(0));
+    }
+
+    private static void loansOnTheDay() {
+        TransferHall x = hall();
+        x.match(0, 1);
+        Check.due("promise 45: lent later on that day", false, () -> x.appear(0, 1, 0));
+        x.match(0, 2);
+        Check.due("promise 45: for another club", false, () -> x.appear(1, 2, 0));
+        x.lend(0, 1, 1, 1, 0);
+        Check.due("promise 46: entitled by the loan", false, () -> x.protest(0, 0));
+        x.days(1);
+        Check.due("promise 8: the match of the first day counts for the obligation", 1, () -> x.boundTo(0));
+
+        TransferHall y = hall();
+        y.match(0, 1);
+        y.appear(0, 1, 0);
+        y.match(0, 2);
+        y.appear(1, 2, 0);
+        y.days(1);
+        y.match(0, 1);
+        y.appear(2, 1, 0);
+        y.match(0, 1);
+        y.lend(0, 1, 5, 2, 0);
+        y.appear(3, 1, 0);
+        Check.due("promise 32: both matches of the day, not that of the day ahead", 2, () -> y.recall(0));
+        Check.due("promise 46: the loan that ended on that day is none", true, () -> y.protest(2, 0));
+        y.lend(0, 1, 5, 2, 0);
+        y.days(2);
+        y.match(0, 1);
+        y.appear(4, 0, 0);
+        y.match(0, 1);
+        y.appear(5, 1, 0);
+        Check.due("promise 32: not for the club that lent, but for that of the loan, on its last day too", 3, () -> y.recall(0));
+        Check.due("promise 46: the loan is not of the day on which it ends", true, () -> y.protest(5, 0));
+        Check.due("promise 46: but the registration behind it is", false, () -> y.protest(4, 1));
+    }
+
+    private static void rulingsOnTheDay() {
+        TransferHall x = hall();
+        x.match(0, 1);
+        x.match(0, 1);
+        Check.due("promise 45: bought later on that day", false, () -> x.appear(0, 1, 0));
+        Check.due("promise 45: not bought yet", true, () -> x.appear(1, 0, 0));
+        complete(x, 1, 0);
+        Check.due("promise 46: bought by now", false, () -> x.protest(0, 0));
+        Check.due("promise 46: sold by now", true, () -> x.protest(1, 1));
+        Check.due("promise 30: loses the match of its first day", true, () -> x.rule(0));
+        Check.due("promise 47: the club that bought", 1, () -> x.loser(0));
+        Check.due("promise 47: the old registration ended all the same", 0, () -> x.loser(1));
+
+        TransferHall y = hall();
+        y.match(0, 1);
+        y.appear(0, 1, 2);
+        y.appear(0, 1, 0);
+        y.protest(0, 0);
+        complete(y, 1, 0);
+        Check.due("promise 47: lost by another player", 1, () -> y.loser(0));
+        Check.due("promise 30: loses no match that was not lost", false, () -> y.rule(0));
+    }
+
+    private static void complete(TransferHall x, int buyer, int player) {
+        int offer = x.offer(buyer, player, 0, 1, 1, 0, 0);
+        x.answer(offer, true);
+        x.file(offer);
+        x.complete(offer);
     }
 }

@@ -23,13 +23,13 @@ public final class Model {
         List<Con> conOf = new ArrayList<>();
         Reg reg; Con con;
         List<Con> story = new ArrayList<>();
-        boolean onLoan; int loanClub, loanEnd, loanNeeded, loanPrice, loanPlayed;
+        boolean onLoan; int loanClub, loanEnd, loanNeeded, loanPrice;
     }
     static final class Bid { int buyer, player, fee, parts, years, wage, share, filed, completed; char state = 'o'; Con old, made; Reg reg; }
     /** A line of the book: club numbers, or 100 plus a land for its federation. */
     static final class Line { int from, to; long sum; Bid bid; Line(int f, int t, long s, Bid b) { from = f; to = t; sum = s; bid = b; } }
     static final class Due { Bid bid; int sum, day; boolean gone; }
-    static final class Told { int player, club; boolean entitled; Reg by; }
+    static final class Told { int player, club; }
     static final class Game { int a, b, day; boolean aSaid, bSaid; List<Told> told = new ArrayList<>(); }
 
     int[][][] windows = new int[4][2][2];
@@ -118,7 +118,7 @@ public final class Model {
     void loanOver(Person p) {
         int price = p.loanPrice, club = p.loanClub;
         p.onLoan = false;
-        if (p.loanNeeded > 0 && p.loanPlayed >= p.loanNeeded && p.con.until > today && cash.get(club) >= price) {
+        if (p.loanNeeded > 0 && playedOn(p) >= p.loanNeeded && p.con.until > today && cash.get(club) >= price) {
             event("loan ends by a sale");
             pay(club, people.indexOf(p), p.con, price, null);
             Con c = new Con();
@@ -344,6 +344,8 @@ public final class Model {
         Person p = people.get(b.player);
         if (p.story.get(p.story.size() - 1) != b.made || b.made.lent) no();
         event(p.con == b.made ? "ruling" : "ruling behind a ruling");
+        List<Boolean> lostWas = new ArrayList<>();
+        for (Game g : games) { lostWas.add(lost(g, g.a)); lostWas.add(lost(g, g.b)); }
         p.story.remove(b.made);
         for (int d = 0; d < today; d++) {
             if (p.regOf.get(d) == b.reg) p.regOf.set(d, null);
@@ -355,11 +357,7 @@ public final class Model {
         for (Line l : copy) if (l.bid == b) { move(l.to, l.from, l.sum, null); book.remove(l); }
         for (Due d : dues) if (d.bid == b) d.gone = true;
         boolean loses = false;
-        for (Game g : games) for (int side : new int[] {g.a, g.b}) {
-            boolean was = lost(g, side);
-            for (Told t : g.told) if (t.club == side && t.by == b.reg) t.entitled = false;
-            loses |= !was && lost(g, side);
-        }
+        for (int i = 0; i < games.size(); i++) loses |= !lostWas.get(2 * i) && lost(games.get(i), games.get(i).a) || !lostWas.get(2 * i + 1) && lost(games.get(i), games.get(i).b);
         b.state = 'v';
         if (loses) event("ruling loses a match");
         return loses;
@@ -374,7 +372,7 @@ public final class Model {
         if (loans(club, false) == 4) event("four borrowed");
         if (between == 2) event("two between two clubs");
         if (isBanned(club) || loans(p.con.club, true) == 4 || loans(club, false) == 4 || between == 2) state();
-        p.onLoan = true; p.loanClub = club; p.loanEnd = today + days; p.loanNeeded = matches; p.loanPrice = price; p.loanPlayed = 0;
+        p.onLoan = true; p.loanClub = club; p.loanEnd = today + days; p.loanNeeded = matches; p.loanPrice = price;
         p.con.lent = true;
         register(p, club, 2);
         return today + days;
@@ -383,9 +381,10 @@ public final class Model {
         Person p = at(people, player);
         if (!p.onLoan) no();
         if (!isOpen(clubs.get(p.con.club)[0])) state();
+        int n = playedOn(p);
         p.onLoan = false;
         register(p, p.con.club, 1);
-        return p.loanPlayed;
+        return n;
     }
     public int loans(int club, boolean isLent) {
         known(club);
@@ -420,9 +419,18 @@ public final class Model {
         if (year < 0 || year >= today / 360 || year < founded.get(club) / 360) throw new NoSuchElementException();
         return results.get(club).get(year);
     }
+    /** Where a player is registered on a day, today as it stands by now. */
+    Reg regOn(Person p, int day) { return day == today ? p.reg : p.regOf.get(day); }
+    boolean entitled(Game g, Told t) { Reg r = regOn(people.get(t.player), g.day); return r != null && r.club == t.club; }
+    /** In how many matches the player was by the present registration. */
+    int playedOn(Person p) {
+        int n = 0;
+        for (Game g : games) for (Told t : g.told) if (people.get(t.player) == p && t.club == p.reg.club && g.day >= p.reg.begun) n++;
+        return n;
+    }
     boolean lost(Game g, int side) {
         boolean said = side == g.a ? g.bSaid : g.aSaid, bad = false;
-        for (Told t : g.told) bad |= t.club == side && !t.entitled;
+        for (Told t : g.told) bad |= t.club == side && !entitled(g, t);
         return said && bad;
     }
     public int points(int club) {
@@ -459,10 +467,9 @@ public final class Model {
         if (g.day != today) no();
         for (Told t : g.told) if (t.player == player) no();
         Told t = new Told();
-        t.player = player; t.club = club; t.by = p.reg; t.entitled = p.reg != null && p.reg.club == club;
+        t.player = player; t.club = club;
         g.told.add(t);
-        if (t.entitled && p.onLoan) p.loanPlayed++;
-        return t.entitled;
+        return entitled(g, t);
     }
     public boolean protest(int match, int club) {
         Game g = at(games, match); known(club);

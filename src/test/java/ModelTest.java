@@ -27,7 +27,7 @@ public final class ModelTest {
         this.seed = seed;
         dice = seed * 0x9E3779B97F4A7C15L + 12345;
         for (int i = 0; i < 5; i++) roll(7);
-        theme = (int) (seed % 6);
+        theme = (int) (seed % 7);
     }
 
     private static Map<String, Method> methods(Class<?> type) {
@@ -96,7 +96,7 @@ public final class ModelTest {
             if (roll(3) > 0) call("setWindow", i, false, roll(60), 200 + roll(160));
         }
         for (int i = 0; i < clubs; i++) call("club", roll(lands), 1 + roll(4), pick(0, 1000, theme >= 3 ? 1000 : 100000, theme >= 3 ? 2000 : 1000000, theme >= 3 ? 500 : 9999999));
-        for (int i = 0; i < 3 + roll(8); i++) call("player", pick(4300, 4400, 5000, 5400, 5750, 5800, 6400, 6500, 7000, 7190, 7500, 7600, 9000, 14399) + roll(20) - 20, roll(lands));
+        for (int i = 0; i < (theme == 2 ? 8 : 3) + roll(8); i++) call("player", pick(4300, 4400, 5000, 5400, 5750, 5800, 6400, 6500, 7000, 7190, 7500, 7600, 9000, 14399) + roll(20) - 20, roll(lands));
         if (roll(3) > 0) for (int i = 0; i < model.people.size(); i++) {
             if (roll(2) == 0) call("enrol", i, roll(clubs));
             else call("sign", i, roll(clubs), 1 + roll(5), roll(4) == 0 ? roll(9999) : roll(40));
@@ -145,13 +145,40 @@ public final class ModelTest {
 
     /** The rarer things need several calls that fit each other. */
     private void story() {
-        switch (theme == 0 ? 1 + roll(5) : theme) {
+        switch (theme == 0 ? 1 + roll(6) : theme) {
             case 1: loanStory(); break;
             case 2: limitStory(); break;
             case 3: chain(); break;
             case 4: debtStory(); break;
+            case 5: dayStory(); break;
             default: rulingStory();
         }
+    }
+
+    /** Matches and moves of one day: what begins on it counts, and what ends on it does not, in whatever order. */
+    private void dayStory() {
+        int player = player();
+        int from = club();
+        int to = club();
+        Object made = roll(2) == 0 ? call("offer", to, player, roll(500), 1, 2, 1, 10) : null;
+        if (made instanceof Integer) {
+            call("answer", made, true);
+            call("file", made);
+            call("certify", made, true);
+        }
+        for (int i = 0; i < 5; i++) {
+            switch (roll(9)) {
+                case 0: case 1: Object game = call("match", from, to); if (game instanceof Integer) call("appear", game, roll(2) == 0 ? from : to, player); break;
+                case 2: call("protest", lateGame(), roll(2) == 0 ? from : to); break;
+                case 3: call("leave", player); call("enrol", player, roll(2) == 0 ? from : to); break;
+                case 4: call("sign", player, roll(2) == 0 ? from : to, 1, 1); break;
+                case 5: call("lend", player, to, pick(1, 1, 2), pick(0, 1, 2), roll(500)); break;
+                case 6: call("recall", player); break;
+                default: if (made instanceof Integer) call(roll(2) == 0 ? "complete" : "rule", made);
+            }
+        }
+        if (roll(2) == 0) call("protest", lateGame(), to);
+        if (roll(2) == 0) call("days", pick(1, 1, 2));
     }
 
     private void loanStory() {
