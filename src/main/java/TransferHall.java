@@ -1264,6 +1264,9 @@ public final class TransferHall {
     }
 
     private boolean canFollow(int done, int next) {
+        if (next < 0 || next >= chain.size()) {
+            return false;
+        }
         Offer one = chain.get(next);
         int payer = one.buyer.number;
         if (payer < 0 || payer >= MOST_CLUBS) {
