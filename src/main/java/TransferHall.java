@@ -412,7 +412,7 @@ public final class TransferHall {
     }
 
     public TransferHall() {
-        for (int i = 0; i < MOST_LANDS; i++) {
+        for (int i = 0; i < lands.length; i++) {
             lands[i] = new Land();
         }
     }
@@ -942,7 +942,7 @@ public final class TransferHall {
             Stint present = players.get(i).registration;
             sum = 31 * sum + (present == null ? 0 : present.club.number + 1);
         }
-        for (int i = 0; i < MOST_LANDS; i++) {
+        for (int i = 0; i < lands.length; i++) {
             sum = 31 * sum + lands[i].federation;
         }
         return sum;
@@ -978,7 +978,7 @@ public final class TransferHall {
     // ---- what is asked for by number
 
     private Land landAt(int land) {
-        if (land < 0 || land >= MOST_LANDS) {
+        if (land < 0 || land >= lands.length) {
             throw new IllegalArgumentException();
         }
         return lands[land];
@@ -1269,12 +1269,9 @@ public final class TransferHall {
         }
         Offer one = chain.get(next);
         int payer = one.buyer.number;
-        if (payer < 0 || payer >= MOST_CLUBS) {
-            return false;
-        }
         long cash = one.buyer.cash;
         for (int i = 0; i < gains.length; i++) {
-            if ((done >> i & 1) != 0) {
+            if ((done >> i & 1) != 0 && payer >= 0 && payer < gains[i].length) {
                 cash += gains[i][payer];
             }
         }
@@ -1483,7 +1480,7 @@ public final class TransferHall {
         for (int i = 0; i < clubs.size(); i++) {
             sum += clubs.get(i).cash;
         }
-        for (int i = 0; i < MOST_LANDS; i++) {
+        for (int i = 0; i < lands.length; i++) {
             sum += lands[i].federation;
         }
         return sum == startCash + allIncome - allWages;
